@@ -50,6 +50,7 @@ public final class PromiseTests {
         shapesAreAsked();
         countsAreTold();
         statusIsTold();
+        fullHill();
         Check.end("PromiseTests");
     }
 
@@ -107,12 +108,25 @@ public final class PromiseTests {
         x.row(1, 2, 2);
         due("a new row is of the new lane", x.set(1, 0, 100000), 100000);
         due("a new row has the new size", x.set(1, 2, 1), Check.PLACE);
-        x.row(1, 2, 2);
-        x.row(2, 2, 2);
-        x.set(2, 0, 9);
-        x.copy(1, 0, 2, 0, 1);
-        Check.read(x, CALM);
-        due("items of a new row are 0", x.council(0, 0, 2, 0, 1, 0), BAD);
+        newItemsAreNone();
+    }
+
+    // A council refuses an item of 0 and takes one of 1.
+    private static void newItemsAreNone() {
+        DeadAsked x = onHill(CALM);
+        for (int row = 6; row < 8; row++) {
+            x.row(row, 2, 40);
+            for (int i = 0; i < 40; i++) {
+                x.set(row, i, 1);
+            }
+        }
+        x.row(6, 2, 40);
+        for (int i = 0; i < 40; i++) {
+            due("items of a new row are 0", x.council(0, 0, 6, i, 1, 0), BAD);
+            due("items of the next row stay", x.council(0, 0, 7, i, 1, 0), 1);
+        }
+        due("the last row", x.row(7, 2, 40), 40);
+        due("its last item", x.council(0, 0, 7, 39, 1, 0), BAD);
     }
 
     private static void itemsAreSet() {
@@ -255,6 +269,7 @@ public final class PromiseTests {
         due("most of each", Check.read(x, CALM + "grave 0 0 0 0;grave 0 0 0 0;grave 0 0 0 0;grave 0 0 0 0;"
                 + "grave 0 0 0 0;horn 0 1;horn 0 1;horn 0 1;horn 0 1;"
                 + "tree fir 0 0;tree fir 1 0;tree fir 2 0;tree fir 3 0;"), 5);
+        nothingIsLeftOfOldHills();
         x.image(0);
         x.row(0, 0, 4);
         x.crack(0);
@@ -268,6 +283,26 @@ public final class PromiseTests {
         due("images stay", x.restore(0), 1);
         due("the old hill", x.count(1), 5);
         due("not yet cracked", x.count(2), 4);
+    }
+
+    private static void nothingIsLeftOfOldHills() {
+        DeadAsked x = onHill(HILL);
+        x.crack(0);
+        for (int k = 0; k < 3; k++) {
+            Check.read(x, HILL);
+            due("horns of another hill", x.count(2), 2);
+            x.crack(1);
+        }
+        for (int k = 0; k < 3; k++) {
+            Check.read(x, CALM);
+            due("graves of a calm hill", x.count(1), 0);
+            due("horns of a calm hill", x.count(2), 0);
+            due("trees of a calm hill", x.count(3), 0);
+        }
+        Check.read(x, "winds 0 1111111");
+        due("a number at the end ends there", Check.read(x, "winds 0 1"), DeadAsked.NOT - 109);
+        Check.read(x, "winds;horn");
+        due("a name at the end ends there", Check.read(x, "winds"), DeadAsked.NOT - 105);
     }
 
     private static void faultDue(String text, int fault, int place) {
@@ -296,6 +331,13 @@ public final class PromiseTests {
         faultDue("winds 0 0 0 0 0 0 0 0 0 0 0 0\t;", 1, 29);
         faultDue("winds 0 0 0 0 0 0 0 0 0 0 0 0;\u00e9", 1, 30);
         faultDue("Winds 0", 1, 0);
+        faultDue("minds 0", 1, 0);
+        faultDue(CALM + "brave 0 0 0 0;", 1, 30);
+        faultDue(CALM + "tree pearz 0 0;", 1, 35);
+        faultDue(CALM + "tree pear{ 0 0;", 1, 39);
+        faultDue(CALM + "tree pear` 0 0;", 1, 39);
+        faultDue(CALM + "tree pear / 0;", 1, 40);
+        faultDue(CALM + "tree pear : 0;", 1, 40);
         faultDue("winds 0000 0", 1, 6);
         faultDue("winds 12345", 1, 6);
         faultDue("winds 004 0", 2, 6);
@@ -399,6 +441,13 @@ public final class PromiseTests {
         due("draws of the winds", x.ask(1, 0, 0, 1), 0);
         // Nothing blows: tree 0: 7, then 9 and 3 below 4; tree 2: 8, then 0 below 1.
         due("draws of the graves", x.ask(1, 1, 5, 1), 5);
+        // The wind draws 7, the grave 9, which is not below 9.
+        DeadAsked y = onHill(CALM + "grave 0 9 9 1; horn 0 40; tree pear 0 9;");
+        due("a draw that is as high", y.ask(1, 1, 0, 1), 0);
+        // Seed 2 draws 33614, a 4: not below the 4 tenths of a pear in hour 0.
+        DeadAsked z = onHill("winds 2 3 0 0 0 0 0 0 0 0 0 0; tree pear 0 9;");
+        due("a draw of the wind that is as high", z.ask(1, 1, 0, 2), 0);
+        due("a draw of the wind below", z.ask(1, 1, 1, 2), 1);
     }
 
     private static void fruitIsPicked() {
@@ -671,6 +720,8 @@ public final class PromiseTests {
         objectionDue(x, new int[] {1, 1, 3, 0}, 35, 44, 5);
         x.pick(0, 2);
         objectionDue(x, new int[] {1, 1, 3, 0}, 0, 1, 0);
+        DeadAsked y = onHill(CALM + "grave 0 9 1 1; grave 0 9 0 1; horn 0 40; tree fir 0 1;");
+        objectionDue(y, new int[] {1, 1, 0, 0}, 1, 1, 1);
     }
 
     private static void picksAreFound() {
@@ -697,6 +748,11 @@ public final class PromiseTests {
         DeadAsked y = onHill("winds 1 0 0 0 0 0 0 0 0 0 0 0; tree oak 0 1; tree fir 9 1; tree nut 18 1;");
         due("of several the least", y.picks(1, 0, 0, 900), 1);
         due("not the one that does not matter", y.picks(1, 0, 0, 1000), 5);
+        // 0.9 five times: 0.59049.
+        DeadAsked z = onHill(CALM + "grave 0 9 1 1; grave 0 9 1 1; grave 0 9 1 1; grave 0 9 1 1; grave 0 9 1 1;"
+                + "horn 0 40; tree fir 0 1;");
+        due("more than s", z.picks(1, 1, 0, 590), 0);
+        due("just less than s", z.picks(1, 1, 0, 591), 1);
     }
 
     private static void councilDue(DeadAsked x, int[] asked, long above, long below) {
@@ -894,6 +950,30 @@ public final class PromiseTests {
             due("count " + what, x.count(what), wants[what]);
         }
         due("count below", x.count(-1), BAD);
+    }
+
+    // As many of each as there can be: no call looks behind the last.
+    private static void fullHill() {
+        DeadAsked x = onHill("winds 3 3 3 3 3 3 3 3 3 3 3 1; grave 0 9 1 1; grave 1 9 1 1; grave 2 9 1 1; grave 3 9 1 1;"
+                + "grave 4 9 5 1; horn 0 40; horn 1 40; horn 2 40; horn 3 5;"
+                + "tree pear 0 1; tree pear 1 1; tree fir 2 1; tree oak 3 9;");
+        graveDue(x, 4, 4, 9, 5, 1, 3, 15);
+        due("graves of the last tree", x.tree(3, 3), 24);
+        due("minds", x.minds(1, 8), 31);
+        due("fruit", x.count(5), 12);
+        oddsDue(x, 1, 0, 11, 72, 125);
+        due("how", x.how(1, 5, 0, 11), 177);
+        due("picks", x.picks(1, 15, 11, 1000), 15);
+        objectionDue(x, new int[] {1, 15, 11, 3}, 110, 119, 24);
+        due("ask", x.ask(1, 15, 11, 1) >> 4, 0);
+        due("undo", x.undo(), 0);
+        due("fruit again", x.count(5), 12);
+        due("crack", x.crack(3), 1);
+        due("horns", x.count(2), 3);
+        due("move", x.move(4, 30), 4);
+        due("image", x.image(1), 1);
+        due("restore", x.restore(1), 1);
+        graveDue(x, 4, 30, 9, 5, 1, NONE, 7);
     }
 
     private static void statusIsTold() {
