@@ -1237,17 +1237,20 @@ public final class DeadAsked {
             return i >= 0 && i < left && i < MOST_TRACED ? traced[i] : NONE;
         }
 
+        // Bodies that stand for one kind alone are told here, so that an ask goes no deeper than it must.
         int size() {
             switch (kind) {
                 case KIND_PEAR:
                 case KIND_NUT:
                     return pearSize();
                 case KIND_OAK:
-                    return oakSize();
+                    leave(12);
+                    return -pearSize();
                 case KIND_ASH:
                     return ashSize();
                 case KIND_FIR:
-                    return firSize();
+                    leave(14);
+                    return 2 * ashSize();
                 default:
                     return lentSize();
             }
@@ -1260,7 +1263,8 @@ public final class DeadAsked {
                 case KIND_NUT:
                     return nutMark();
                 case KIND_OAK:
-                    return oakMark();
+                    leave(24);
+                    return 2 * nutMark();
                 case KIND_ASH:
                 case KIND_FIR:
                     return ashMark();
@@ -1280,20 +1284,10 @@ public final class DeadAsked {
             return lent + mark();
         }
 
-        private int oakSize() {
-            leave(12);
-            return -pearSize();
-        }
-
         private int ashSize() {
             leave(13);
             int lent = lentSize();
             return lent - mark();
-        }
-
-        private int firSize() {
-            leave(14);
-            return 2 * ashSize();
         }
 
         private int lentMark() {
@@ -1314,11 +1308,6 @@ public final class DeadAsked {
         private int ashMark() {
             leave(23);
             return lentMark() + 10 * loose;
-        }
-
-        private int oakMark() {
-            leave(24);
-            return 2 * nutMark();
         }
 
         private void leave(int body) {

@@ -5,7 +5,11 @@ import java.lang.reflect.Modifier;
 import java.nio.charset.StandardCharsets;
 import java.nio.file.Files;
 import java.nio.file.Path;
+import java.util.ArrayDeque;
+import java.util.Deque;
+import java.util.Map;
 import java.util.Set;
+import java.util.TreeMap;
 import java.util.TreeSet;
 import java.util.regex.Matcher;
 import java.util.regex.Pattern;
@@ -20,6 +24,8 @@ public final class LanguageTests {
         "long fell(int,int,int,int,int)", "long picks(int,int,int,int)", "long council(int,int,int,int,int,int)",
         "long image(int)", "long restore(int)", "long kind(int)", "long as(int,int)", "long shape(int,int)",
         "int trace(int)", "long count(int)", "int status()"};
+
+    private static final int MOST_DEEP = 8;
 
     private LanguageTests() {
     }
@@ -121,15 +127,49 @@ public final class LanguageTests {
                 complain("the source has " + matcher.group());
             }
         }
-        Matcher bodies = Pattern.compile("(?s)\\n( {4}| {8})(?! |\\}|//|/\\*)[^;{}]*\\([^;{}]*\\)\\s*\\{\\n(.*?)\\n\\1\\}")
-                .matcher(code);
-        int found = 0;
+        methodsAreShortAndShallow(code);
+    }
+
+    private static void methodsAreShortAndShallow(String code) {
+        Map<String, Set<String>> calls = new TreeMap<>();
+        String head = "(?s)\\n( {4}| {8})(?! |\\}|//|/\\*)[^;{}]*?(\\w+)\\([^;{}]*\\)\\s*\\{\\n";
+        Matcher bodies = Pattern.compile(head + "(.*?)\\n\\1\\}").matcher(code);
         while (bodies.find()) {
-            found++;
-            if (bodies.group(2).split("\n").length > 60) {
-                complain("a long method: " + bodies.group().substring(0, 60));
+            if (bodies.group(3).split("\n").length > 60) {
+                complain("a long method: " + bodies.group(2));
+            }
+            calls.computeIfAbsent(bodies.group(2), name -> new TreeSet<>()).addAll(callsOf(bodies.group(3)));
+        }
+        Check.due("methods were looked at", calls.size() > 80 ? 1 : 0, 1);
+        for (String name : calls.keySet()) {
+            int depth = depthOf(name, calls, new ArrayDeque<>());
+            Check.due("calls below " + name + " are few", depth <= MOST_DEEP ? 1 : 0, 1);
+        }
+    }
+
+    private static Set<String> callsOf(String body) {
+        Set<String> called = new TreeSet<>();
+        Matcher matcher = Pattern.compile("\\b(\\w+)\\(").matcher(body);
+        while (matcher.find()) {
+            called.add(matcher.group(1));
+        }
+        return called;
+    }
+
+    // By names alone: methods of one name in two classes are taken as one, which tells too much, never too little.
+    private static int depthOf(String name, Map<String, Set<String>> calls, Deque<String> open) {
+        if (open.contains(name)) {
+            complain("a recursion: " + name + " in " + open);
+            return 0;
+        }
+        open.push(name);
+        int below = 0;
+        for (String called : calls.get(name)) {
+            if (calls.containsKey(called)) {
+                below = Math.max(below, depthOf(called, calls, open));
             }
         }
-        Check.due("methods were looked at", found > 80 ? 1 : 0, 1);
+        open.pop();
+        return below + 1;
     }
 }
